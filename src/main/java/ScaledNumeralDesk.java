@@ -871,7 +871,7 @@ public final class ScaledNumeralDesk {
             return held && !out.isTooLarge() ? DONE : TOO_LARGE;
         }
 
-        /** Puts the digits into a row, the first one at the given place; false when one lies beyond the row. */
+        /** Puts the digits into a row, the first one at the given place; false when one is beyond any numeral. */
         private boolean placeDigits(int start, int end, int first, int[] limbs) {
             int place = first;
             boolean up = false;
@@ -880,10 +880,10 @@ public final class ScaledNumeralDesk {
                     continue;
                 }
                 int digit = characters[i] - '0';
-                if (place >= LIMBS * LIMB_DIGITS && digit != 0) {
+                if (place >= MOST_DIGITS && digit != 0) {
                     return false;
                 }
-                if (place >= 0 && place < LIMBS * LIMB_DIGITS) {
+                if (place >= 0 && place < MOST_DIGITS) {
                     limbs[place / LIMB_DIGITS] += digit * TENS[place % LIMB_DIGITS];
                 }
                 up = up || (place == -1 && digit >= 5);

@@ -109,6 +109,13 @@ public final class EnterTest {
         bad(NINES + "." + "9".repeat(24) + "5", -3);
         bad("-" + NINES + "." + "9".repeat(25), -3);
         bad("0." + "0".repeat(40) + "1e73", -3);
+        // Roundings that carry through all digits, however many there are.
+        for (int nines = 32; nines <= 54; nines++) {
+            bad("9".repeat(nines) + "." + "9".repeat(25), -3);
+        }
+        for (int nines = 57; nines <= 76; nines++) {
+            bad("9".repeat(nines) + "e-25", -3);
+        }
         good(NINES + "." + "9".repeat(24) + "4", NINES + "." + "9".repeat(24), 24);
     }
 
