@@ -336,9 +336,9 @@ public final class ScaledNumeralDesk {
                 return;
             }
             // Three limbs of the divisor, plus one, make a guess that is right or one too small.
-            long guide = threeLimbs(divisor, top) + 1;
+            long guide = head(divisor, top, 3) + 1;
             for (int shift = topLimb(rest) - top; shift >= 0; shift--) {
-                int limb = (int) (fourLimbs(rest, shift + top + 1) / guide);
+                int limb = (int) (head(rest, shift + top + 1, 4) / guide);
                 takeMultiple(rest, divisor, limb, shift, top);
                 if (isStillIn(rest, divisor, shift, top)) {
                     takeMultiple(rest, divisor, 1, shift, top);
@@ -348,16 +348,13 @@ public final class ScaledNumeralDesk {
             }
         }
 
-        private static long threeLimbs(int[] row, int top) {
-            return (limbAt(row, top) * BASE + limbAt(row, top - 1)) * BASE + limbAt(row, top - 2);
-        }
-
-        private static long fourLimbs(int[] row, int top) {
-            return threeLimbs(row, top) * BASE + limbAt(row, top - 3);
-        }
-
-        private static long limbAt(int[] row, int i) {
-            return i >= 0 && i < row.length ? row[i] : 0;
+        /** The number that some limbs from the top one down make, as if zeros stood behind the row. */
+        private static long head(int[] row, int top, int limbs) {
+            long head = 0;
+            for (int i = top; i > top - limbs; i--) {
+                head = head * BASE + (i >= 0 && i < row.length ? row[i] : 0);
+            }
+            return head;
         }
 
         private static void takeMultiple(int[] rest, int[] divisor, int limb, int shift, int top) {
@@ -373,7 +370,7 @@ public final class ScaledNumeralDesk {
         }
 
         private static boolean isStillIn(int[] rest, int[] divisor, int shift, int top) {
-            if (limbAt(rest, shift + top + 1) > 0) {
+            if (shift + top + 1 < rest.length && rest[shift + top + 1] > 0) {
                 return true;
             }
             for (int i = top; i >= 0; i--) {

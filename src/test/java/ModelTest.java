@@ -1,6 +1,7 @@
 /**
  * Promises 1 to 17 on many runs of calls, each answer and each register compared with the model's.
- * The runs are the same each time: the numbers come from a fixed rule, not from a random source.
+ * The runs are the same each time: the numbers come from a fixed rule, not from a random source. Looking at the
+ * registers after each call takes a run beyond the 512 calls of the document; the class has no such limit inside.
  */
 public final class ModelTest {
     private static final Checks CHECKS = new Checks("ModelTest");

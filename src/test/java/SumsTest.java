@@ -9,6 +9,7 @@ public final class SumsTest {
         acceptsAndDiscards();
         discardsWhatWasNotAccepted();
         countsByKind();
+        countsByScale();
         sizeLimit();
         merges();
         resets();
@@ -106,6 +107,10 @@ public final class SumsTest {
         totalIs(desk, 1, "NaN");
         CHECKS.same("discard NaN", desk.discard(1, 0), 0);
         totalIs(desk, 1, "2.5");
+    }
+
+    private static void countsByScale() {
+        ScaledNumeralDesk desk = new ScaledNumeralDesk();
         for (int scale = 0; scale <= 24; scale++) {
             Checks.enter(desk, 5, "1e-" + scale);
             CHECKS.same("each scale", desk.discard(2, 5), -6);
@@ -116,8 +121,10 @@ public final class SumsTest {
         for (int scale = 24; scale > 0; scale--) {
             Checks.enter(desk, 5, "1e-" + scale);
             CHECKS.same("each scale", desk.discard(2, 5), 0);
-            totalIs(desk, 2, scale == 1 ? "1" : "1." + "1".repeat(scale - 1));
+            CHECKS.same("total", desk.total(7, 2), 0);
+            CHECKS.same("scale of the total", desk.scale(7), scale - 1);
         }
+        totalIs(desk, 2, "1");
     }
 
     /** Doubles a sum of one up to 512, and with other ones up to just 1000. */
@@ -168,6 +175,9 @@ public final class SumsTest {
         CHECKS.same("reset", desk.reset(0), true);
         CHECKS.same("accept after it", desk.accept(0, 0), 0);
         totalIs(desk, 0, "1");
+        desk.reset(0);
+        CHECKS.same("after a reset there is room for 1000", desk.merge(0, 3), 0);
+        CHECKS.same("and no more", desk.accept(0, 0), -2);
         discardsAddToTheSize();
     }
 
@@ -242,7 +252,7 @@ public final class SumsTest {
     }
 
     private static void totals() {
-        ScaledNumeralDesk desk = entered(NINES, "1", "-" + NINES, NINES + "." + "9".repeat(24), "0.5");
+        ScaledNumeralDesk desk = entered(NINES, "1", "-" + NINES);
         desk.accept(0, 0);
         totalIs(desk, 0, NINES);
         desk.accept(0, 1);
@@ -254,20 +264,6 @@ public final class SumsTest {
         desk.accept(0, 2);
         desk.accept(0, 2);
         CHECKS.same("below -10^32", desk.total(7, 0), -3);
-        desk.accept(1, 3);
-        for (int i = 0; i < 9; i++) {
-            desk.merge(1, 1);
-        }
-        CHECKS.same("512 great ones", desk.total(7, 1), -3);
-        desk.merge(2, 1);
-        for (int i = 0; i < 255; i++) {
-            desk.discard(2, 3);
-        }
-        CHECKS.same("257 great ones", desk.total(7, 2), -3);
-        for (int i = 0; i < 233; i++) {
-            desk.discard(2, 3);
-        }
-        CHECKS.same("full", desk.discard(2, 3), -2);
         greatSumsAreExact();
         roundedToTooLarge();
     }
@@ -278,9 +274,14 @@ public final class SumsTest {
         for (int i = 0; i < 8; i++) {
             desk.merge(0, 0);
         }
-        for (int i = 0; i < 255; i++) {
+        desk.merge(1, 0);
+        desk.merge(1, 0);
+        CHECKS.same("512 great ones", desk.total(7, 1), -3);
+        for (int i = 0; i < 254; i++) {
             CHECKS.same("discard", desk.discard(0, 0), 0);
         }
+        CHECKS.same("two great ones", desk.total(7, 0), -3);
+        CHECKS.same("discard", desk.discard(0, 0), 0);
         totalIs(desk, 0, NINES + "." + "9".repeat(24));
     }
 
