@@ -124,7 +124,8 @@ public final class EnterTest {
             "", " ", "+", "-", ".", "+.", "e", "e5", ".e5", "1e", "1e+", "1e-", "1e1234", "1e0000", "1e1.", "1e1 ",
             " 1", "1 ", "1 2", "1..2", "1.2.3", "--1", "+-1", "1-", "1+2", "0x1", "1,5", "1f", "abc", "1e1e1", "1ee1",
             "+NaN", "-NaN", "NaN ", " NaN", "Na", "NaNN", "nan0", "Infinit", "Infinityy", "infi", "in", "++inf",
-            "inf ", " inf", "xan", "jnf", "Anfinity", "-tnf", "na", "nfinity", "inf1", "1inf", "-", "Infinity-", "1E5x", "1e+-5", "1e--5", "1.5/", "1:", "@", "`"};
+            "inf ", " inf", "xan", "jnf", "Anfinity", "-tnf", "na", "nfinity",
+            "inf1", "1inf", "-", "Infinity-", "1E5x", "1e+-5", "1e--5", "1.5/", "1:", "@", "`"};
         for (String text : texts) {
             bad(text, -2);
         }
