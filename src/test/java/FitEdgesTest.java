@@ -207,7 +207,7 @@ public final class FitEdgesTest {
         compares("9.00", "10", -1);
     }
 
-    /** "MINUS is less than all others, NaN greater than all others, PLUS greater than all but NaN; NaN equals NaN ..." */
+    /** "MINUS is less than all others, NaN greater than all others, PLUS greater than all but NaN ..." */
     private static void compareOfTheOthers() {
         for (String finite : new String[] {"0", "0.00", "5.5", "-5.5", Edges.MOST, "-" + Edges.MOST}) {
             compares("-Infinity", finite, -1);

@@ -1,12 +1,14 @@
 /**
  * Promises 1 to 17 on many runs of calls, each answer and each register compared with the model's.
- * The runs are the same each time: the numbers come from a fixed rule, not from a random source. Looking at the
- * registers after each call takes a run beyond the 512 calls of the document; the class has no such limit inside.
+ * The runs are the same each time: the numbers come from a fixed rule, not from a random source. A run ends before
+ * the 512th call of its desk, and so as not to spend them all on texts, a long text is looked at in some places only.
  */
 public final class ModelTest {
     private static final Checks CHECKS = new Checks("ModelTest");
-    private static final int RUNS = 6000;
-    private static final int STEPS = 60;
+    private static final int RUNS = 12000;
+    private static final int MOST_CALLS = 512;
+    // The most that one step can need: 80 characters, one call and its count, and two looks at a register.
+    private static final int STEP_CALLS = 80 + 2 + 2 * 16;
     private static final String[] ODD = {
         "nan", "NaN", "-nan", "inf", "-inf", "+Infinity", "-INFINITY", "", ".", "-", "1e", "e1", "1..", " 1", "1e99",
         "0e999", "0e-999", "-0.0", "1e31", "-1e31", "5e31", "1e32", "1e-24", "5e-25", "4.9e-25", "-1e-24", "1e-9",
@@ -17,6 +19,7 @@ public final class ModelTest {
     private long state;
     private ScaledNumeralDesk desk;
     private Model model;
+    private int calls;
 
     public static void main(String[] args) {
         for (int run = 0; run < RUNS; run++) {
@@ -29,7 +32,7 @@ public final class ModelTest {
         state = seed * 7919L + 12345;
         desk = new ScaledNumeralDesk();
         model = new Model();
-        for (int step = 0; step < STEPS; step++) {
+        for (int step = 0; calls + STEP_CALLS <= MOST_CALLS; step++) {
             step("run " + seed + " step " + step + " ");
         }
     }
@@ -49,6 +52,7 @@ public final class ModelTest {
     }
 
     private void step(String at) {
+        calls++;
         int choice = below(20);
         if (choice < 6) {
             enter(at);
@@ -103,6 +107,7 @@ public final class ModelTest {
         } else {
             CHECKS.same(call, desk.average(r, k), model.average(r, k));
         }
+        calls++;
         CHECKS.same(call + " count", desk.count(k), model.count(k));
         show(call, r);
     }
@@ -116,6 +121,7 @@ public final class ModelTest {
         for (int i = 0; i < text.length(); i++) {
             typed &= desk.type(text.charAt(i)) == model.type(text.charAt(i));
         }
+        calls += text.length();
         CHECKS.same(at + "type " + text, typed, true);
         int r = nearly(8);
         CHECKS.same(at + "enter '" + text + "'", desk.enter(r), model.enter(r));
@@ -154,9 +160,22 @@ public final class ModelTest {
         if (r < 0 || r > 7) {
             return;
         }
-        CHECKS.same("text after " + call, Checks.text(desk, r), model.text(r));
-        CHECKS.same("scale after " + call, desk.scale(r), model.scale(r));
+        look("text after " + call, r);
         int beside = below(8);
-        CHECKS.same("text of " + beside + " after " + call, Checks.text(desk, beside), model.text(beside));
+        look("text of " + beside + " after " + call, beside);
+    }
+
+    private void look(String what, int r) {
+        String text = model.text(r);
+        CHECKS.same("length of " + what, desk.length(r), text.length());
+        CHECKS.same("scale of " + what, desk.scale(r), model.scale(r));
+        calls += 2;
+        int places = Math.min(text.length() + 1, 14);
+        int first = below(text.length() + 2 - places);
+        for (int i = first; i < first + places; i++) {
+            int due = i < text.length() ? text.charAt(i) : -1;
+            CHECKS.same("character " + i + " of " + what, desk.character(r, i), due);
+            calls++;
+        }
     }
 }

@@ -24,6 +24,23 @@ public final class NewObjectTest {
         checks.same("its text", Checks.text(desk, 1), "0");
         checks.same("all of the first object's buffer is its own", used.enter(1), 0);
         checks.same("its text", Checks.text(used, 1), "12");
+        everythingAtFirst(checks);
         checks.end();
+    }
+
+    /** "All registers hold the value 0 with scale 0, the buffer is empty, all sums are as at first." */
+    private static void everythingAtFirst(Checks checks) {
+        String zero = "0." + "0".repeat(24);
+        String sum = "count 0, total refused with -6, average refused with -6, size 0, discards"
+                + " 0/-6".repeat(28) + ", value 0 " + zero;
+        State.of(ScaledNumeralDesk::new).forEach((part, state) -> {
+            if (part.startsWith("register")) {
+                checks.same(part, state, "0 scale 0");
+            } else if (part.startsWith("sum")) {
+                checks.same(part, state, sum);
+            } else {
+                checks.same(part, state, "room 80, read as refused with -2, continued as 70");
+            }
+        });
     }
 }

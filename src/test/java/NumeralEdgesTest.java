@@ -213,7 +213,6 @@ public final class NumeralEdgesTest {
             EDGES.adjustGives(0, sign + "9999.5", 0, sign + "10000");
             EDGES.adjustGives(0, sign + "9999.4999", 0, sign + "9999");
             EDGES.adjustGives(0, sign + "0." + "9".repeat(24), 23, sign + "1." + "0".repeat(23));
-            EDGES.applyGives(2, sign + "1.000000000000", "1.5e-12", sign + "0." + "0".repeat(11) + "15" + "0".repeat(11));
             EDGES.applyGives(2, sign + "0.0000000000015", "1e-12", sign + "0." + "0".repeat(23) + "2");
             EDGES.applyGives(2, sign + "0.0000000000014", "1e-12", sign + TINY);
             EDGES.applyGives(3, sign + "25", "1e25", sign + "0." + "0".repeat(23) + "3");

@@ -373,7 +373,8 @@ public final class SumEdgesTest {
 
     /** "NaN if the count of NaN is not 0 or those of PLUS and MINUS both are not 0" */
     private static void resultOfNaN() {
-        String[][] some = {{"NaN"}, {"NaN", "1.5"}, {"NaN", "inf"}, {"NaN", "-inf"}, {"inf", "-inf"}, {"-inf", "inf", "2"}};
+        String[][] some = {
+            {"NaN"}, {"NaN", "1.5"}, {"NaN", "inf"}, {"NaN", "-inf"}, {"inf", "-inf"}, {"-inf", "inf", "2"}};
         for (String[] texts : some) {
             totalIs(summed(texts), "NaN");
             averageIs(summed(texts), "NaN");

@@ -206,8 +206,8 @@ public final class TextEdgesTest {
         EDGES.enterGives("-Infinity", "-Infinity");
         EDGES.enterGives("-inf", "-Infinity");
         String[] wrong = {
-            "++inf", "--inf", "+-inf", "-+Infinity", "in", "infi", "infinit", "Infinityy", "inf1", "1inf", "inf.", "infe1",
-            "inf+", "Infinity-", "*inf", "i", "-", "+i"};
+            "++inf", "--inf", "+-inf", "-+Infinity", "in", "infi", "infinit", "Infinityy", "inf1", "1inf", "inf.",
+            "infe1", "inf+", "Infinity-", "*inf", "i", "-", "+i"};
         for (String text : wrong) {
             EDGES.enterRefuses(text, -2);
         }
@@ -231,7 +231,8 @@ public final class TextEdgesTest {
         EDGES.enterGives("-.12", "-0.12");
         EDGES.enterGives("12.e1", "120");
         EDGES.enterGives(".12e1", "1.2");
-        for (String text : new String[] {"..12", "1..2", "12..", ".1.2", "1.2.", ".12.", "1,2", ".+1", "1.e1.", "1e.1"}) {
+        String[] wrong = {"..12", "1..2", "12..", ".1.2", "1.2.", ".12.", "1,2", ".+1", "1.e1.", "1e.1"};
+        for (String text : wrong) {
             EDGES.enterRefuses(text, -2);
         }
     }
