@@ -52,6 +52,15 @@ final class Edges {
         ScaledNumeralDesk desk = after(scene, call);
         checks.same("text after " + what, Checks.text(desk, d), text);
         checks.same("scale after " + what, desk.scale(d), scaleOf(text));
+        valueIsThatOfTheText(what, desk, d, text);
+    }
+
+    /** A value could have places that its text doesn't show: it is compared with what the text is read as. */
+    private void valueIsThatOfTheText(String what, ScaledNumeralDesk desk, int d, String text) {
+        int other = (d + 1) % 8;
+        desk.enter(other);
+        Scene.hold(desk, other, text);
+        checks.same("value and text after " + what, desk.compare(d, other), 0);
     }
 
     void applyGives(int op, String a, String b, String text) {

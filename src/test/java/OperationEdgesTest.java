@@ -1,3 +1,4 @@
+import java.math.BigDecimal;
 import java.math.BigInteger;
 
 /** The boundary cases that "Terms" and promises 7 and 8 name of the operations of apply and adjust. */
@@ -31,6 +32,7 @@ public final class OperationEdgesTest {
         negateKeepsTheScale();
         trimToTheLeastScale();
         rootAndItsScale();
+        rootOfEachFourDigits();
         rootOutside();
         adjustOfOthers();
         applyOnItsOwnRegisters();
@@ -332,6 +334,18 @@ public final class OperationEdgesTest {
         EDGES.adjustGives(6, NINES, 0, "1" + "0".repeat(16) + ".00");
         // Behind the scale the root goes on with 4999999: it is not rounded up.
         EDGES.adjustGives(6, "99999999", 0, "9999.99994999999987");
+    }
+
+    /** The root is found four digits at a time: each of these numbers, before the point and behind it. */
+    private static void rootOfEachFourDigits() {
+        for (long number = 0; number <= 9999; number++) {
+            BigDecimal root = new BigDecimal(number).add(new BigDecimal(number).movePointLeft(4));
+            ScaledNumeralDesk desk = new ScaledNumeralDesk();
+            Checks.enter(desk, 0, root.multiply(root).toPlainString());
+            EDGES.same("root for " + root, desk.adjust(6, 1, 0, 0), 0);
+            String text = root.setScale(desk.scale(1)).toPlainString();
+            EDGES.same("text of the root for " + root, Checks.text(desk, 1), text);
+        }
     }
 
     /** "ROOT of MINUS or of a value below 0 is OUTSIDE." */
